@@ -11,6 +11,7 @@ public final class ShrinkTest {
         noneBecomesGreater();
         settling();
         settlingInRounds();
+        settlingInManyRounds();
         goneOnesStay();
         due.end();
     }
@@ -81,6 +82,12 @@ public final class ShrinkTest {
         due.is("GP is by where output 2 begins", x.output(2, 0), 1048576);
         x.align(2, 0);
         due.is("output 2 begins ahead of its part", x.piece(3, 4), 0);
+        x.part(1, 0);
+        x.plain(2, 10000);
+        x.put(0, 4, 0);
+        due.is("where output 1 begins tells nothing", x.piece(1, 4), 4);
+        x.put(0, 4, 10000);
+        due.is("where output 2 begins does", x.piece(1, 4), 0);
     }
 
     /** The label at the first call's end must not move before the second call has been looked at. */
@@ -128,25 +135,22 @@ public final class ShrinkTest {
         due.is("all again", x.shrink(), 8);
         due.is("all hold", x.holds(), -1);
         due.is("settle fixes none", x.settle(), 0);
-        ShrinkLayout y = chain(60);
-        due.is("a long chain", y.shrink(), 60 + 1);
-        due.is("a long chain's bytes", y.saved(), 60 * 6);
+        ShrinkLayout y = chain(255);
+        due.is("a long chain", y.shrink(), 255 + 1);
+        due.is("a long chain's bytes", y.saved(), 255 * 6);
     }
 
     /** Calls of 4 bytes that come within reach of 2 bytes one by one, the last one first. */
     private static ShrinkLayout chain(int calls) {
         ShrinkLayout x = new ShrinkLayout();
         x.part(0, 0);
-        for (int i = 0; i < calls; i++) {
-            x.label();
-            x.call(0, i, 0, true);
-        }
-        int end = x.plain(0, 4000);
+        x.label();
         for (int i = 0; i < calls; i++) {
             // With all calls of 4 bytes, 2 bytes too far for each call that stands behind this one.
             int distance = 2046 + 2 * (calls - 1 - i);
-            x.put(i, end, distance - 4 * (calls - i));
+            x.call(0, 0, distance - 4 * (calls - i), true);
         }
+        x.put(0, x.plain(0, 1), 0);
         due.is("a first pass makes all of them 4", x.pass(), calls);
         return x;
     }
@@ -259,6 +263,28 @@ public final class ShrinkTest {
         due.is("but not once the second is great", x.settle(), 2);
         due.is("both are 8", x.saved(), 0);
         due.is("both are fixed", x.piece(0, 5) + x.piece(1, 5), 2);
+    }
+
+    /** Each call that is taken back drives the one ahead of it, and none else, out of reach. */
+    private static void settlingInManyRounds() {
+        int calls = 200;
+        ShrinkLayout x = new ShrinkLayout();
+        x.part(0, 0);
+        x.label();
+        for (int i = 0; i < calls; i++) {
+            int behind = calls - 1 - i;
+            x.call(0, 0, 2048 - 6 * behind - 2 * (calls - i), true);
+        }
+        int end = x.plain(0, 0);
+        x.put(0, 0, 0);
+        due.is("all shrink", x.shrink() > 1, true);
+        due.is("all are 2", x.saved(), 6 * calls);
+        x.put(0, end, 0);
+        due.is("the last one doesn't hold", x.holds(), calls - 1);
+        due.is("all are taken back", x.settle(), calls);
+        due.is("nothing is saved", x.saved(), 0);
+        due.is("the first is fixed", x.piece(0, 5), 1);
+        due.is("all hold", x.holds(), -1);
     }
 
     private static void goneOnesStay() {
